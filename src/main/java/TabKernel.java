@@ -7,9 +7,17 @@ public final class TabKernel {
 
     private static final int LINE_MOST = 160;
     private static final int ADDRESS_MOST = 60;
+    private static final int LABEL_MOST = 12;
+    private static final int LABELS_MOST = 6;
+    private static final int PORT_DIGITS_MOST = 5;
+    private static final int PORT_MOST = 65535;
     private static final int TIME_MOST = 1000000000;
     private static final int SUFFIXES_MOST = 8;
     private static final int COOKIES_MOST = 40;
+    private static final int COOKIE_PART_MOST = 12;
+    private static final int COOKIE_PATH_MOST = 30;
+    private static final int COOKIE_DOMAIN_MOST = 40;
+    private static final int AGE_DIGITS_MOST = 7;
     private static final int TABS = 4;
     private static final int FRAMES = 16;
     private static final int DEPTH_MOST = 5;
@@ -38,7 +46,6 @@ public final class TabKernel {
     private final StringBuilder line = new StringBuilder();
     private final StringBuilder scratch = new StringBuilder();
     private final AddressReader reader = new AddressReader();
-    private final Suffixes suffixes = new Suffixes();
     private final Jar jar;
     private final Storage storage = new Storage();
     private final Message[] messages = new Message[MESSAGES_MOST];
@@ -50,7 +57,7 @@ public final class TabKernel {
     private String latest = "";
 
     public TabKernel(int quota) {
-        jar = new Jar(Math.max(1, Math.min(COOKIES_MOST, quota)), suffixes);
+        jar = new Jar(Math.max(1, Math.min(COOKIES_MOST, quota)));
     }
 
     public int type(long w) {
@@ -71,10 +78,10 @@ public final class TabKernel {
 
     public int suffix() {
         String host = small(takeLine());
-        if (host.isEmpty() || hostEnd(host, 0) != host.length()) {
+        if (hostEnd(host, 0) != host.length()) {
             return NONE;
         }
-        return suffixes.add(host) ? suffixes.size() : NONE;
+        return jar.suffixes.add(host) ? jar.suffixes.size() : NONE;
     }
 
     public int pass(int n) {
@@ -166,7 +173,7 @@ public final class TabKernel {
         if (number == NONE) {
             return refuse(frame, NO_ROOM);
         }
-        return begin(new Request(number, frame, there, mode, with));
+        return send(new Request(number, frame, there, mode, with));
     }
 
     public void answer(int r) throws IndexOutOfBoundsException {
@@ -203,7 +210,7 @@ public final class TabKernel {
         Address there = reader.read(text, request.address);
         if (there != null && request.mayLeadTo(there)) {
             request.leadTo(there);
-            noteRequest(request);
+            send(request);
             return true;
         }
         requests[r] = null;
@@ -283,7 +290,7 @@ public final class TabKernel {
             case 9:
                 return messageCount;
             case 10:
-                return suffixes.size();
+                return jar.suffixes.size();
             default:
                 return NONE;
         }
@@ -457,16 +464,11 @@ public final class TabKernel {
             requests[under.number] = null;
         }
         int number = freeRequest();
-        return number == NONE ? NONE : begin(new Request(number, frame, there, NONE, true));
+        return number == NONE ? NONE : send(new Request(number, frame, there, NONE, true));
     }
 
-    private int begin(Request request) {
+    private int send(Request request) {
         requests[request.number] = request;
-        noteRequest(request);
-        return request.number;
-    }
-
-    private void noteRequest(Request request) {
         scratch.setLength(0);
         scratch.append(request.address.text);
         if (request.with) {
@@ -480,6 +482,7 @@ public final class TabKernel {
             scratch.setLength(MESSAGE_TEXT_MOST);
         }
         note(REQUESTED, request.number, request.frame.number, scratch.toString());
+        return request.number;
     }
 
     private void commit(Request request, String text) {
@@ -616,7 +619,7 @@ public final class TabKernel {
             } else {
                 break;
             }
-            if (inLabel > 12 || dots > 5) {
+            if (inLabel > LABEL_MOST || dots >= LABELS_MOST) {
                 return NONE;
             }
         }
@@ -737,11 +740,11 @@ public final class TabKernel {
             at++;
             int from = at;
             port = 0;
-            while (isDigit(next()) && at - from <= 5) {
+            while (isDigit(next()) && at - from <= PORT_DIGITS_MOST) {
                 port = port * 10 + (next() - '0');
                 at++;
             }
-            return at - from <= 5 && port >= 1 && port <= 65535;
+            return at - from <= PORT_DIGITS_MOST && port >= 1 && port <= PORT_MOST;
         }
 
         private void readPath(String ahead) {
@@ -752,7 +755,7 @@ public final class TabKernel {
             scratch.setLength(0);
             scratch.append(ahead);
             scratch.append(text.substring(from, at));
-            path = withoutDots(scratch.toString());
+            path = scratch.toString();
         }
 
         /** What does not belong to an address is left over here, and so the end is not reached. */
@@ -785,22 +788,28 @@ public final class TabKernel {
 
         private String withoutDots(String dotted) {
             scratch.setLength(0);
-            int end = 0;
-            for (int slash = 0; slash < dotted.length(); slash = end) {
-                end = find(dotted, '/', slash + 1, dotted.length());
-                String part = dotted.substring(slash + 1, end);
-                boolean up = part.equals("..");
-                if (up) {
-                    dropLastPart();
-                }
-                if (!up && !part.equals(".")) {
-                    scratch.append('/');
-                    scratch.append(part);
-                } else if (end == dotted.length()) {
-                    scratch.append('/');
+            int slash = 0;
+            for (int end = 1; end <= dotted.length(); end++) {
+                boolean last = end == dotted.length();
+                if (last || dotted.charAt(end) == '/') {
+                    keepPart(dotted.substring(slash + 1, end), last);
+                    slash = end;
                 }
             }
             return scratch.toString();
+        }
+
+        private void keepPart(String part, boolean last) {
+            boolean up = part.equals("..");
+            if (up) {
+                dropLastPart();
+            }
+            if (!up && !part.equals(".")) {
+                scratch.append('/');
+                scratch.append(part);
+            } else if (last) {
+                scratch.append('/');
+            }
         }
 
         private void dropLastPart() {
@@ -813,6 +822,7 @@ public final class TabKernel {
         }
 
         private Address finished() {
+            path = withoutDots(path);
             scratch.setLength(0);
             scratch.append(secure ? "https://" : "http://");
             scratch.append(host);
@@ -909,13 +919,16 @@ public final class TabKernel {
             }
             String name = trimmed(text, 0, sign);
             String value = trimmed(text, sign + 1, end);
-            if (name.isEmpty() || name.length() > 12 || value.length() > 12) {
+            if (name.isEmpty() || name.length() > COOKIE_PART_MOST || value.length() > COOKIE_PART_MOST) {
                 return null;
             }
             CookieText told = new CookieText(name, value);
-            for (int from = end + 1; from < text.length(); from = end + 1) {
-                end = find(text, ';', from, text.length());
-                told.readAttribute(text, from, end);
+            int from = end + 1;
+            for (int to = from; to <= text.length(); to++) {
+                if (to == text.length() || text.charAt(to) == ';') {
+                    told.readAttribute(text, from, to);
+                    from = to + 1;
+                }
             }
             return told;
         }
@@ -948,7 +961,7 @@ public final class TabKernel {
             boolean minus = standsAt(told, 0, "-");
             int from = minus ? 1 : 0;
             int digits = told.length() - from;
-            if (digits < 1 || digits > 7) {
+            if (digits < 1 || digits > AGE_DIGITS_MOST) {
                 return;
             }
             int sum = 0;
@@ -1018,19 +1031,18 @@ public final class TabKernel {
         }
     }
 
-    /** All cookies, and the TIME by which they end. */
+    /** All cookies, the suffixes that part their sites, and the TIME by which they end. */
     private static final class Jar {
         private final int quota;
-        private final Suffixes suffixes;
+        final Suffixes suffixes = new Suffixes();
         /** In the order of their numbers, so that the first row is the one that came first. */
         private final Cookie[] rows = new Cookie[COOKIES_MOST + 1];
         private int size;
-        private final Cookie[] going = new Cookie[COOKIES_MOST + 1];
+        private final Cookie[] going = new Cookie[COOKIES_MOST];
         private int time;
 
-        Jar(int quota, Suffixes suffixes) {
+        Jar(int quota) {
             this.quota = quota;
-            this.suffixes = suffixes;
         }
 
         int time() {
@@ -1055,7 +1067,7 @@ public final class TabKernel {
             return count;
         }
 
-        /** SETTING. */
+        /** SETTING: the text may ask for anything, and often nothing happens. */
         void put(String text, Address by, boolean network) {
             dropOver();
             CookieText told = CookieText.of(text);
@@ -1094,7 +1106,10 @@ public final class TabKernel {
             }
             String domain = hostAlone ? by.host : told.domain;
             String path = told.path.isEmpty() ? folderOf(by.path) : told.path;
-            if (told.secure && !by.secure || path.length() > 30 || domain.length() > 40) {
+            if (told.secure && !by.secure) {
+                return null;
+            }
+            if (path.length() > COOKIE_PATH_MOST || domain.length() > COOKIE_DOMAIN_MOST) {
                 return null;
             }
             return new Cookie(told, domain, hostAlone, path, told.age == NONE ? NONE : time + told.age);

@@ -149,6 +149,22 @@ public final class AddressTest {
         resolved("http://h?a/b", "c", "http://h/c");
         resolved("http://h//", "c", "http://h//c");
         resolved("http://h/a?b", "", "http://h/a?b");
+        otherBases();
+    }
+
+    /** Each frame has its own base, whatever was read last. */
+    private static void otherBases() {
+        Bench b = new Bench();
+        b.committed("http://one:81/a/b?q");
+        b.committed("https://two:82/c/d?r");
+        b.messages();
+        for (String reference : new String[] {"", "x", "/x", "?x", "//x", "a b"}) {
+            b.child(0, reference);
+            b.child(1, reference);
+        }
+        Bench.same("by turns", b.messages(), "1 0 2 http://one:81/a/b?q|1 1 3 https://two:82/c/d?r|1 2 4 http://one:81/a/x"
+                + "|1 3 5 https://two:82/c/x|1 4 6 http://one:81/x|1 5 7 https://two:82/x|1 6 8 http://one:81/a/b?x"
+                + "|1 7 9 https://two:82/c/d?x|1 8 10 http://x/|1 9 11 https://x/|6 0 1 |6 1 1 ");
     }
 
     private static void noReferences() {

@@ -44,6 +44,7 @@ public final class CookieTest {
         pair("a", "");
         pair("=b", "");
         pair("  =b", "");
+        pair("=a=b", "");
         pair("a; b=c", "");
         pair(";a=b", "");
         pair("abcdefghijkl=abcdefghijkl", "abcdefghijkl=abcdefghijkl");
@@ -400,6 +401,8 @@ public final class CookieTest {
         Bench.same("the longest, below it", oneSite("x.co.uk co.uk", "c.a.x.co.uk", "a.x.co.uk"), true);
         Bench.same("beside the longest", oneSite("x.co.uk co.uk", "c.y.co.uk", "y.co.uk"), true);
         Bench.same("one label", oneSite("uk", "a.co.uk", "b.co.uk"), true);
+        Bench.same("one label, same letters", oneSite("", "acom", "bcom"), false);
+        Bench.same("suffixes, same letters", oneSite("a.com b.com", "a.com", "b.com"), false);
         Bench.same("same letters", oneSite("", "ab.com", "b.com"), false);
     }
 

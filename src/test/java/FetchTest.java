@@ -173,6 +173,10 @@ public final class FetchTest {
         b.set(r, "m=2");
         Bench.same("heads are forgotten", answered(b, r), "4 0 0 ");
         Bench.same("cookies are not", b.kernel.about(0, 8), 2);
+        r = b.fetch(0, 1, false, "http://b.com/");
+        b.leave(r, true, "*");
+        b.lead(r, "r");
+        Bench.same("* too", answered(b, r), "4 0 0 ");
         r = b.fetch(0, 1, true, "http://b.com/");
         b.lead(r, "http://c.com");
         b.leave(r, true, "http://a.com");
