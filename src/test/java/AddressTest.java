@@ -63,6 +63,23 @@ public final class AddressTest {
             "http://a/#%", "http://u@a", "?q", "#r", "https:a", "*", "http://a!"}) {
             is(none, "none");
         }
+        for (char c = 32; c <= 126; c++) {
+            boolean ofHost = Character.isLetterOrDigit(c) || c == '-';
+            boolean ofPath = ofHost || "._~/".indexOf(c) >= 0;
+            boolean ofQuery = ofPath || c == '=' || c == '&';
+            is("http://a" + c + "b", ofHost || c == '.' ? "http://a" + Character.toLowerCase(c) + "b/" : behindHost(c));
+            is("http://a/" + c + "b", ofPath ? "http://a/" + c + "b" : behindPath(c));
+            is("http://a/?" + c + "b", ofQuery ? "http://a/?" + c + "b" : c == '#' ? "http://a/?" : "none");
+            is("http://a/#" + c + "b", ofQuery ? "http://a/" : "none");
+        }
+    }
+
+    private static String behindHost(char c) {
+        return c == '/' ? "http://a/b" : behindPath(c);
+    }
+
+    private static String behindPath(char c) {
+        return c == '?' ? "http://a/?b" : c == '#' ? "http://a/" : "none";
     }
 
     private static void lengths() {

@@ -401,6 +401,8 @@ public final class CookieTest {
         Bench.same("the longest, below it", oneSite("x.co.uk co.uk", "c.a.x.co.uk", "a.x.co.uk"), true);
         Bench.same("beside the longest", oneSite("x.co.uk co.uk", "c.y.co.uk", "y.co.uk"), true);
         Bench.same("one label", oneSite("uk", "a.co.uk", "b.co.uk"), true);
+        Bench.same("the first letters are the same", oneSite("", "b.com", "b.co"), false);
+        Bench.same("the first letters are the same", oneSite("", "b.co", "b.com"), false);
         Bench.same("one label, same letters", oneSite("", "acom", "bcom"), false);
         Bench.same("suffixes, same letters", oneSite("a.com b.com", "a.com", "b.com"), false);
         Bench.same("same letters", oneSite("", "ab.com", "b.com"), false);

@@ -139,6 +139,12 @@ public final class FrameTest {
         Bench.same("another scheme", c.navigate(0, 1, "x"), -1);
         Bench.same("another port", c.navigate(0, 2, "x"), -1);
         Bench.same("the same port", c.navigate(0, 3, "x"), 0);
+        Bench d = new Bench();
+        d.committed("https://a");
+        d.committed("http://a:443");
+        d.committed("https://b:443");
+        Bench.same("the scheme alone", d.navigate(0, 1, "x"), -1);
+        Bench.same("the host alone", d.navigate(0, 2, "x"), -1);
     }
 
     private static void navigateOrder() {
