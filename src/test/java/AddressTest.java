@@ -16,7 +16,7 @@ public final class AddressTest {
     private static String text(String address) {
         Bench b = new Bench();
         int tab = b.open(address);
-        Bench.same("message 1 and a tab, or neither: " + address, b.kernel.about(0, 9), tab == 0 ? 1 : 0);
+        Bench.same("message 1 and a tab, or neither: " + address, b.about(0, 9), tab == 0 ? 1 : 0);
         return tab == 0 ? b.messageText(0) : "none";
     }
 
@@ -126,7 +126,7 @@ public final class AddressTest {
     private static String meant(String base, String reference) {
         Bench b = new Bench();
         int top = b.committed(base);
-        b.kernel.clear();
+        b.clear();
         int inner = b.child(top, reference);
         return inner == TabKernel.NONE ? b.messages() : b.messageText(0);
     }

@@ -28,8 +28,8 @@ public final class FetchTest {
         Bench.same("by leave", b.fetch(0, 1, false, "http://b"), 1);
         Bench.same("unseen", b.fetch(0, 2, true, "//c/?"), 2);
         Bench.same("messages", b.messages(), "1 0 0 http://a/x/z|1 1 0 http://b/|1 2 0 http://c/?");
-        Bench.same("a fetch", b.kernel.about(2, 6), 1);
-        Bench.same("no navigation", b.kernel.about(0, 4), -1);
+        Bench.same("a fetch", b.about(2, 6), 1);
+        Bench.same("no navigation", b.about(0, 4), -1);
         b.answer(1, "");
         Bench.same("least number that is free", b.fetch(0, 0, false, ""), 1);
         b.messages();
@@ -71,7 +71,7 @@ public final class FetchTest {
         b.set(0, "z=0");
         b.set(1, "h=2; httponly");
         b.set(3, "o=3");
-        Bench.same("one without cookies sets none", b.kernel.about(0, 8), 3);
+        Bench.same("one without cookies sets none", b.about(0, 8), 3);
         b.fetch(0, 1, true, "//b");
         b.enter("http://a");
         b.child(0, "/x");
@@ -81,7 +81,7 @@ public final class FetchTest {
     private static String answered(Bench b, int r) {
         b.messages();
         b.answer(r, "secret");
-        Bench.same("over", b.kernel.about(r, 5), -1);
+        Bench.same("over", b.about(r, 5), -1);
         return b.messages();
     }
 
@@ -172,7 +172,7 @@ public final class FetchTest {
         Bench.same("by its own address", b.messages(), "1 0 0 http://b.com/p/r n=1");
         b.set(r, "m=2");
         Bench.same("heads are forgotten", answered(b, r), "4 0 0 ");
-        Bench.same("cookies are not", b.kernel.about(0, 8), 2);
+        Bench.same("cookies are not", b.about(0, 8), 2);
         r = b.fetch(0, 1, false, "http://b.com/");
         b.leave(r, true, "*");
         b.lead(r, "r");
@@ -197,18 +197,18 @@ public final class FetchTest {
         Bench b = at("http://a.com/x");
         int r = b.fetch(0, 0, true, "");
         Bench.same("own origin", b.lead(r, "/y"), true);
-        Bench.same("still there", b.kernel.about(r, 6), 1);
+        Bench.same("still there", b.about(r, 6), 1);
         b.messages();
         Bench.same("another origin", b.lead(r, "//b.com"), false);
         Bench.same("message 4", b.messages(), "4 0 0 ");
-        Bench.same("over", b.kernel.about(r, 5), -1);
+        Bench.same("over", b.about(r, 5), -1);
         Bench.throwsIndex("over", () -> b.lead(0, "/y"));
         for (int mode = 0; mode < 3; mode++) {
             r = b.fetch(0, mode, true, "");
             b.messages();
             Bench.same("no such address", b.lead(r, "a b"), false);
             Bench.same("message 4", b.messages(), "4 0 0 ");
-            Bench.same("over", b.kernel.about(r, 5), -1);
+            Bench.same("over", b.about(r, 5), -1);
         }
         for (int mode = 1; mode < 3; mode++) {
             r = b.fetch(0, mode, true, "");
@@ -224,17 +224,17 @@ public final class FetchTest {
         b.messages();
         Bench.same("led on", b.lead(0, "//b.a.com/?"), true);
         Bench.same("message 1", b.messages(), "1 0 0 http://b.a.com/? n=1");
-        Bench.same("under way", b.kernel.about(0, 4), 0);
+        Bench.same("under way", b.about(0, 4), 0);
         b.set(0, "m=1");
         b.answer(0, "t");
         Bench.same("there", b.messages(), "2 0 0 http://b.a.com/?|3 0 0 t");
-        Bench.same("cookie of the new address", b.cookies(0), "n=1; m=1");
+        Bench.same("cookie of the new address", b.cookiesOf(0), "n=1; m=1");
         b.navigate(0, 0, "http://c.com");
         b.messages();
         Bench.same("no such address", b.lead(0, "?a b"), false);
         Bench.same("message 6", b.messages(), "6 0 1 ");
-        Bench.same("over", b.kernel.about(0, 4), -1);
-        Bench.same("stays where it was", b.bar(), "http://b.a.com/?");
+        Bench.same("over", b.about(0, 4), -1);
+        Bench.same("stays where it was", b.barText(), "http://b.a.com/?");
     }
 
     private static void sixthLead() {
@@ -247,7 +247,7 @@ public final class FetchTest {
             b.messages();
             Bench.same("the sixth", b.lead(r, "/6"), false);
             Bench.same("message 4", b.messages(), "4 0 0 ");
-            Bench.same("over", b.kernel.about(r, 5), -1);
+            Bench.same("over", b.about(r, 5), -1);
         }
         sixthLeadOfNavigation(b, "/6", "6 0 2 ");
         sixthLeadOfNavigation(b, "6 6", "6 0 1 ");
@@ -266,6 +266,6 @@ public final class FetchTest {
         b.messages();
         Bench.same("the sixth", b.lead(r, last), false);
         Bench.same("message 6", b.messages(), want);
-        Bench.same("over", b.kernel.about(0, 4), -1);
+        Bench.same("over", b.about(0, 4), -1);
     }
 }

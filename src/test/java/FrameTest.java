@@ -23,7 +23,7 @@ public final class FrameTest {
         Bench.same("child", b.child(0, "z"), 1);
         Bench.same("another", b.child(0, "//b"), 2);
         Bench.same("messages", b.messages(), "1 0 1 http://a/x/z|1 1 2 http://b/");
-        Bench.same("parent", b.kernel.about(2, 2), 0);
+        Bench.same("parent", b.about(2, 2), 0);
         Bench.same("no address", b.child(0, "a b"), -1);
         Bench.same("message 6", b.messages(), "6 0 1 ");
         Bench.same("child is not committed", b.child(1, ""), -1);
@@ -65,10 +65,10 @@ public final class FrameTest {
             b.fetch(top, 0, true, "");
         }
         b.messages();
-        Bench.same("a frame is free", b.kernel.about(2, 1), -1);
+        Bench.same("a frame is free", b.about(2, 1), -1);
         Bench.same("no room for a request", b.child(top, "x"), -1);
         Bench.same("message 6", b.messages(), "6 0 3 ");
-        Bench.same("none came", b.kernel.about(2, 1), -1);
+        Bench.same("none came", b.about(2, 1), -1);
     }
 
     /** Tab 0: 0 at a, in it 1 at b, in that 2 at c, and 3 at a beside 1; tab 1: 4 at b, in it 5 at c. */
@@ -89,14 +89,14 @@ public final class FrameTest {
         Bench.same(f + " may move " + g, b.navigate(f, g, "/x"), 0);
         String own = f == 0 || f == 3 ? "a" : f == 1 || f == 4 ? "b" : "c";
         Bench.same("message 1, by the address of " + f, b.messages(), "1 0 " + g + " http://" + own + "/x");
-        Bench.same("under way", b.kernel.about(g, 4), 0);
+        Bench.same("under way", b.about(g, 4), 0);
     }
 
     private static void mayNot(int f, int g) {
         Bench b = family();
         Bench.same(f + " may not move " + g, b.navigate(f, g, "/x"), -1);
         Bench.same("message 6", b.messages(), "6 " + f + " 2 ");
-        Bench.same("none under way", b.kernel.about(g, 4), -1);
+        Bench.same("none under way", b.about(g, 4), -1);
     }
 
     private static void whoMayNavigate() {
@@ -167,14 +167,14 @@ public final class FrameTest {
         b.committedChild(0, "http://b");
         Bench.same("begun", b.navigate(0, 1, "http://c"), 0);
         Bench.same("no address", b.navigate(0, 1, ":"), -1);
-        Bench.same("stays", b.kernel.about(1, 4), 0);
+        Bench.same("stays", b.about(1, 4), 0);
         Bench.same("not the frame's own fetches", b.fetch(1, 0, true, ""), 1);
         b.messages();
         Bench.same("again", b.navigate(1, 1, "/d"), 0);
         Bench.same("still b", b.messages(), "1 0 1 http://b/d");
-        Bench.same("fetch is there", b.kernel.about(1, 6), 1);
+        Bench.same("fetch is there", b.about(1, 6), 1);
         b.answer(0, "text");
-        Bench.same("fetch is forgotten", b.kernel.about(1, 6), -1);
+        Bench.same("fetch is forgotten", b.about(1, 6), -1);
         Bench.same("committed", b.messages(), "2 1 0 http://b/d|3 1 0 text");
         Bench.throwsIndex("over", () -> b.answer(0, ""));
     }
@@ -189,23 +189,23 @@ public final class FrameTest {
         int own = b.fetch(0, 0, true, "");
         Bench.same("requests", fetched * 10 + own, 12);
         int r = b.navigate(2, 0, "/n");
-        Bench.same("children until the answer", b.kernel.about(2, 2), 1);
+        Bench.same("children until the answer", b.about(2, 2), 1);
         b.messages();
         b.answer(r, "t");
         Bench.same("messages", b.messages(), "2 0 0 http://a/n|3 0 3 t");
         for (int f = 1; f < 4; f++) {
-            Bench.same("no frame", b.kernel.about(f, 1), -1);
+            Bench.same("no frame", b.about(f, 1), -1);
         }
         for (int k = 0; k < 4; k++) {
-            Bench.same("no request", b.kernel.about(k, 5), -1);
+            Bench.same("no request", b.about(k, 5), -1);
         }
-        Bench.same("parent stays", b.kernel.about(0, 3), 1);
+        Bench.same("parent stays", b.about(0, 3), 1);
         b.committedChild(0, "x");
         b.committedChild(0, "w");
         b.committedChild(1, "y");
         b.go(1, "http://b");
-        Bench.same("its child goes", b.kernel.about(3, 1), -1);
-        Bench.same("one beside it stays", b.kernel.about(2, 1), 0);
+        Bench.same("its child goes", b.about(3, 1), -1);
+        Bench.same("one beside it stays", b.about(2, 1), 0);
         Bench.same("least free number", b.child(2, "q"), 3);
     }
 }

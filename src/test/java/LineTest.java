@@ -13,15 +13,15 @@ public final class LineTest {
     private static void newObject() {
         Bench b = new Bench();
         for (int what = 0; what <= 7; what++) {
-            Bench.same("about(0, " + what + ")", b.kernel.about(0, what), -1);
+            Bench.same("about(0, " + what + ")", b.about(0, what), -1);
         }
         for (int what = 8; what <= 10; what++) {
-            Bench.same("about(0, " + what + ")", b.kernel.about(0, what), 0);
+            Bench.same("about(0, " + what + ")", b.about(0, what), 0);
         }
         Bench.same("line", b.lineLength(), 0);
-        Bench.same("time", b.kernel.pass(0), 0);
-        Bench.same("shown", b.kernel.shown(0), -1);
-        Bench.same("bar", b.bar(), "");
+        Bench.same("time", b.pass(0), 0);
+        Bench.same("shown", b.shown(0), -1);
+        Bench.same("bar", b.barText(), "");
     }
 
     private static void quota() {
@@ -41,34 +41,34 @@ public final class LineTest {
         for (int i = 0; i < 45; i++) {
             b.cookie(top, "n" + i + "=");
         }
-        return b.kernel.about(0, 8);
+        return b.about(0, 8);
     }
 
     private static void typing() {
         Bench b = new Bench();
-        Bench.same("eight", b.kernel.type(Bench.packed("abcdefgh")), 8);
-        Bench.same("none", b.kernel.type(0), 8);
-        Bench.same("zeros between", b.kernel.type(0x6100000062000063L), 11);
-        Bench.same("least and greatest", b.kernel.type(0x207EL), 13);
-        Bench.same("31", b.kernel.type(0x611FL), -1);
-        Bench.same("127", b.kernel.type(0x7F61L), -1);
-        Bench.same("255", b.kernel.type(0xFF00000000000061L), -1);
-        Bench.same("none came", b.kernel.type(0), 13);
+        Bench.same("eight", b.type(Bench.packed("abcdefgh")), 8);
+        Bench.same("none", b.type(0), 8);
+        Bench.same("zeros between", b.type(0x6100000062000063L), 11);
+        Bench.same("least and greatest", b.type(0x207EL), 13);
+        Bench.same("31", b.type(0x611FL), -1);
+        Bench.same("127", b.type(0x7F61L), -1);
+        Bench.same("255", b.type(0xFF00000000000061L), -1);
+        Bench.same("none came", b.type(0), 13);
         Bench order = new Bench();
         int top = order.committed("http://a");
-        order.kernel.type(0x0061003D62000000L);
-        order.kernel.cookie(top);
-        Bench.same("highest byte first", order.cookies(top), "a=b");
+        order.type(0x0061003D62000000L);
+        order.cookie(top);
+        Bench.same("highest byte first", order.cookiesOf(top), "a=b");
         Bench full = new Bench();
         for (int i = 1; i <= 19; i++) {
-            Bench.same("up to 152", full.kernel.type(Bench.packed("xxxxxxxx")), 8 * i);
+            Bench.same("up to 152", full.type(Bench.packed("xxxxxxxx")), 8 * i);
         }
-        Bench.same("159", full.kernel.type(Bench.packed("xxxxxxx")), 159);
-        Bench.same("161 would be", full.kernel.type(Bench.packed("xx")), -1);
-        Bench.same("still 159", full.kernel.type(0), 159);
-        Bench.same("160", full.kernel.type(0x7800000000000000L), 160);
-        Bench.same("full", full.kernel.type(0x78L), -1);
-        Bench.same("full, none typed", full.kernel.type(0), 160);
+        Bench.same("159", full.type(Bench.packed("xxxxxxx")), 159);
+        Bench.same("161 would be", full.type(Bench.packed("xx")), -1);
+        Bench.same("still 159", full.type(0), 159);
+        Bench.same("160", full.type(0x7800000000000000L), 160);
+        Bench.same("full", full.type(0x78L), -1);
+        Bench.same("full, none typed", full.type(0), 160);
     }
 
     private static void lineIsTaken() {
@@ -100,14 +100,14 @@ public final class LineTest {
         b.post(top, top, 1, "x");
         Bench.same("taken by post", b.lineLength(), 0);
         b.line("kept");
-        b.kernel.cookies(top);
-        b.kernel.store(top, 0, 1);
-        b.kernel.stored(top, 0);
-        b.kernel.bar();
-        b.kernel.clear();
-        b.kernel.pass(1);
-        b.kernel.focus(0);
-        b.kernel.close(0);
+        b.cookies(top);
+        b.store(top, 0, 1);
+        b.stored(top, 0);
+        b.bar();
+        b.clear();
+        b.pass(1);
+        b.focus(0);
+        b.close(0);
         Bench.same("not taken by the others", b.lineLength(), 4);
     }
 
@@ -130,20 +130,20 @@ public final class LineTest {
         Bench.same("a to z", b.suffix("az"), 7);
         Bench.same("eighth", b.suffix("h8"), 8);
         Bench.same("ninth", b.suffix("h9"), -1);
-        Bench.same("about", b.kernel.about(-7, 10), 8);
+        Bench.same("about", b.about(-7, 10), 8);
     }
 
     private static void passing() {
         Bench b = new Bench();
-        Bench.same("5", b.kernel.pass(5), 5);
-        Bench.same("7 more", b.kernel.pass(7), 12);
-        Bench.same("below 0", b.kernel.pass(-1), -1);
-        Bench.same("least int", b.kernel.pass(Integer.MIN_VALUE), -1);
-        Bench.same("greatest int", b.kernel.pass(Integer.MAX_VALUE), -1);
-        Bench.same("too much by 1", b.kernel.pass(999999989), -1);
-        Bench.same("nothing changed", b.kernel.pass(0), 12);
-        Bench.same("the most", b.kernel.pass(999999988), 1000000000);
-        Bench.same("no more", b.kernel.pass(1), -1);
-        Bench.same("at the end", b.kernel.pass(0), 1000000000);
+        Bench.same("5", b.pass(5), 5);
+        Bench.same("7 more", b.pass(7), 12);
+        Bench.same("below 0", b.pass(-1), -1);
+        Bench.same("least int", b.pass(Integer.MIN_VALUE), -1);
+        Bench.same("greatest int", b.pass(Integer.MAX_VALUE), -1);
+        Bench.same("too much by 1", b.pass(999999989), -1);
+        Bench.same("nothing changed", b.pass(0), 12);
+        Bench.same("the most", b.pass(999999988), 1000000000);
+        Bench.same("no more", b.pass(1), -1);
+        Bench.same("at the end", b.pass(0), 1000000000);
     }
 }

@@ -59,33 +59,33 @@ public final class MessageTest {
 
     private static void readingMessages() {
         Bench b = new Bench();
-        Bench.same("none", b.kernel.message(0, 0), -1);
-        Bench.same("none", b.kernel.letter(0, 0), -1);
+        Bench.same("none", b.message(0, 0), -1);
+        Bench.same("none", b.letter(0, 0), -1);
         b.open("http://a.com");
         b.open("http://b.com");
         b.answer(1, "Hi ~!");
-        Bench.same("four", b.kernel.about(0, 9), 4);
-        Bench.same("kind", b.kernel.message(3, 0), 3);
-        Bench.same("first", b.kernel.message(3, 1), 1);
-        Bench.same("second", b.kernel.message(3, 2), 1);
-        Bench.same("length", b.kernel.message(3, 3), 5);
-        Bench.same("another what", b.kernel.message(3, 4), -1);
-        Bench.same("another what", b.kernel.message(3, -1), -1);
-        Bench.same("first letter", b.kernel.letter(3, 0), (int) 'H');
-        Bench.same("last letter", b.kernel.letter(3, 4), (int) '!');
-        Bench.same("behind it", b.kernel.letter(3, 5), -1);
-        Bench.same("ahead of it", b.kernel.letter(3, -1), -1);
-        Bench.same("far behind it", b.kernel.letter(3, Integer.MAX_VALUE), -1);
+        Bench.same("four", b.about(0, 9), 4);
+        Bench.same("kind", b.message(3, 0), 3);
+        Bench.same("first", b.message(3, 1), 1);
+        Bench.same("second", b.message(3, 2), 1);
+        Bench.same("length", b.message(3, 3), 5);
+        Bench.same("another what", b.message(3, 4), -1);
+        Bench.same("another what", b.message(3, -1), -1);
+        Bench.same("first letter", b.letter(3, 0), (int) 'H');
+        Bench.same("last letter", b.letter(3, 4), (int) '!');
+        Bench.same("behind it", b.letter(3, 5), -1);
+        Bench.same("ahead of it", b.letter(3, -1), -1);
+        Bench.same("far behind it", b.letter(3, Integer.MAX_VALUE), -1);
         for (int k : new int[] {-1, 4, 200, Integer.MIN_VALUE, Integer.MAX_VALUE}) {
             for (int what = 0; what < 4; what++) {
-                Bench.same("none such", b.kernel.message(k, what), -1);
+                Bench.same("none such", b.message(k, what), -1);
             }
-            Bench.same("none such", b.kernel.letter(k, 0), -1);
+            Bench.same("none such", b.letter(k, 0), -1);
         }
-        b.kernel.clear();
-        Bench.same("no messages", b.kernel.about(0, 9), 0);
-        Bench.same("none such", b.kernel.message(0, 0), -1);
-        Bench.same("none such", b.kernel.letter(0, 0), -1);
+        b.clear();
+        Bench.same("no messages", b.about(0, 9), 0);
+        Bench.same("none such", b.message(0, 0), -1);
+        Bench.same("none such", b.letter(0, 0), -1);
         b.answer(0, "");
         Bench.same("noted again", b.messages(), "2 0 0 http://a.com/|3 0 0 ");
     }
@@ -98,7 +98,7 @@ public final class MessageTest {
         }
         b.messages();
         b.answer(b.fetch(top, 0, true, ""), "x".repeat(160));
-        String all = " " + b.cookies(top);
+        String all = " " + b.cookiesOf(top);
         String asked = "1 0 0 " + ("http://a.com/" + all).substring(0, 200);
         Bench.same("its first 200 characters", b.messages(), asked + "|3 0 0 " + "x".repeat(160));
         String sixty = "http://a.com/" + "p".repeat(47);
@@ -113,9 +113,9 @@ public final class MessageTest {
         for (int i = 10; i < 50; i++) {
             most.cookie(f, "name567890" + i + "=value67890" + i);
         }
-        Bench.same("all are shown", most.kernel.cookies(f), 40 * 27 - 2);
-        Bench.same("the last one", most.kernel.shown(1077), (int) '9');
-        Bench.same("none behind it", most.kernel.shown(1078), -1);
+        Bench.same("all are shown", most.cookies(f), 40 * 27 - 2);
+        Bench.same("the last one", most.shown(1077), (int) '9');
+        Bench.same("none behind it", most.shown(1078), -1);
     }
 
     /** A message 1 whose whole text has that many characters, and a cookie z at its end. */
@@ -129,7 +129,7 @@ public final class MessageTest {
         b.cookie(top, "z=z");
         b.messages();
         b.fetch(top, 0, true, "");
-        String whole = "http://a.com/ " + b.cookies(top);
+        String whole = "http://a.com/ " + b.cookiesOf(top);
         Bench.same("so long", whole.length(), length);
         Bench.same("at most 200", b.messages(), "1 0 0 " + whole.substring(0, Math.min(200, length)));
     }
@@ -137,38 +137,38 @@ public final class MessageTest {
     private static void atMostTwoHundred() {
         Bench b = new Bench();
         b.committed("http://a.com");
-        b.kernel.clear();
+        b.clear();
         for (int i = 0; i < 205; i++) {
             Bench.same("true whether noted or not", b.post(0, 0, i, "*"), true);
         }
-        Bench.same("200", b.kernel.about(0, 9), 200);
+        Bench.same("200", b.about(0, 9), 200);
         Bench.same("the first", b.messageText(0), "0");
         Bench.same("the last", b.messageText(199), "199");
-        Bench.same("none behind it", b.kernel.message(200, 0), -1);
-        b.kernel.clear();
+        Bench.same("none behind it", b.message(200, 0), -1);
+        b.clear();
         b.post(0, 0, 7, "*");
         Bench.same("again", b.messages(), "5 0 0 7");
     }
 
     private static void showing() {
         Bench b = new Bench();
-        Bench.same("nothing yet", b.kernel.shown(0), -1);
+        Bench.same("nothing yet", b.shown(0), -1);
         b.committed("http://a.com");
-        Bench.same("nothing yet", b.kernel.shown(0), -1);
+        Bench.same("nothing yet", b.shown(0), -1);
         b.cookie(0, "n=1");
-        b.kernel.bar();
+        b.bar();
         Bench.same("address", b.shown(), "http://a.com/");
-        Bench.same("ahead of it", b.kernel.shown(-1), -1);
-        Bench.same("last", b.kernel.shown(12), (int) '/');
-        Bench.same("behind it", b.kernel.shown(13), -1);
-        Bench.same("far behind it", b.kernel.shown(Integer.MAX_VALUE), -1);
-        b.kernel.cookies(0);
+        Bench.same("ahead of it", b.shown(-1), -1);
+        Bench.same("last", b.shown(12), (int) '/');
+        Bench.same("behind it", b.shown(13), -1);
+        Bench.same("far behind it", b.shown(Integer.MAX_VALUE), -1);
+        b.cookies(0);
         Bench.same("the latest", b.shown(), "n=1");
         b.cookie(0, "n=2");
         b.enter("http://b.com");
         Bench.same("as it was shown", b.shown(), "n=1");
         b.answer(0, "");
-        b.kernel.cookies(0);
-        Bench.same("empty", b.kernel.shown(0), -1);
+        b.cookies(0);
+        Bench.same("empty", b.shown(0), -1);
     }
 }

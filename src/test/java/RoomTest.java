@@ -21,33 +21,37 @@ public final class RoomTest {
         return bean.getCurrentThreadAllocatedBytes() - before < MOST_BYTES;
     }
 
-    private static Bench full() {
-        Bench b = new Bench();
-        b.committed("http://abcdefghijkl.abcdefghijkl.com/x/y/z/x/y/z/x/y/z");
+    private static TabKernel full() {
+        TabKernel kernel = new TabKernel(40);
+        Bench.type(kernel, "http://abcdefghijkl.abcdefghijkl.com/x/y/z/x/y/z/x/y/z");
+        kernel.open();
+        kernel.answer(0);
         for (int i = 10; i < 50; i++) {
-            b.cookie(0, "name567890" + i + "=value67890" + i + ";path=/");
+            Bench.type(kernel, "name567890" + i + "=value67890" + i + ";path=/");
+            kernel.cookie(0);
         }
-        return b;
+        return kernel;
     }
 
     private static void cookies() {
-        Bench b = full();
-        for (int i = 0; i < 300; i++) {
-            b.kernel.cookies(0);
+        TabKernel kernel = full();
+        for (int i = 0; i < 260; i++) {
+            kernel.cookies(0);
         }
     }
 
     private static void navigations() {
-        Bench b = full();
-        for (int i = 0; i < 300; i++) {
-            b.kernel.navigate(0, 0);
+        TabKernel kernel = full();
+        for (int i = 0; i < 260; i++) {
+            kernel.navigate(0, 0);
         }
     }
 
     private static void settings() {
-        Bench b = full();
-        for (int i = 0; i < 14; i++) {
-            b.cookie(0, "n" + i + "=" + ";=".repeat(78));
+        TabKernel kernel = full();
+        for (int i = 0; i < 12; i++) {
+            Bench.type(kernel, "n" + i + "=" + ";=".repeat(78));
+            kernel.cookie(0);
         }
     }
 }

@@ -30,7 +30,7 @@ public final class StressTest {
         if (random.nextInt(10) < 7) {
             bench.line(TEXTS[random.nextInt(TEXTS.length)]);
         } else {
-            bench.kernel.type(random.nextLong());
+            bench.type(random.nextLong());
         }
         int call = random.nextInt(25);
         try {
@@ -52,7 +52,7 @@ public final class StressTest {
     }
 
     private long call(int call, int a, int b, boolean with) {
-        TabKernel k = bench.kernel;
+        Bench k = bench;
         switch (call) {
             case 0: if (with) k.close(a); return 0;
             case 1: k.focus(a); return 0;
@@ -82,7 +82,7 @@ public final class StressTest {
 
     /** Frames have tabs and parents that are there, and requests have frames. */
     private void whole(long seed) {
-        TabKernel k = bench.kernel;
+        Bench k = bench;
         boolean good = true;
         for (int f = 0; f < 16; f++) {
             int tab = k.about(f, 1);
