@@ -166,17 +166,16 @@ public final class EdgeLineTest {
     }
 
     private static void keeps(String what, Consumer<Bench> call) {
-        Bench b = busy().line("kept");
+        Bench b = busy().line("http://k");
         try {
             call.accept(b);
         } catch (IndexOutOfBoundsException e) {
             // The line stays all the same.
         }
-        Bench.same(what + " keeps the line", b.lineLength(), 4);
-        Bench open = busy().line("http://");
-        open.close(0);
-        open.line("k");
-        Bench.same("and what is in it", open.open(), 0);
+        Bench.same(what + " keeps the line", b.lineLength(), 8);
+        b.clear();
+        b.open();
+        Bench.same(what + " keeps what is in it", b.messageText(0), "http://k/");
     }
 
     private static void notTaken() {
