@@ -112,7 +112,7 @@ final class Bench {
     }
 
     /**
-     * On a copy: a call that answers so and notes these messages (with | between) changes nothing else.
+     * On a copy: a call that answers so and notes these messages (with | between) changes nothing else of the state.
      * The line is to be empty before it, and so it is behind it.
      */
     void refuses(String what, Object answer, String notes, Function<Bench, Object> call) {
@@ -124,7 +124,7 @@ final class Bench {
         same(what + ": nothing else changes", other.state(), state());
     }
 
-    /** On a copy: a call with this line throws, leaves so much of the line, and changes nothing else. */
+    /** On a copy: a call with this line throws, leaves so much of the line, notes nothing and leaves the state as it is. */
     void throwsOn(String what, String line, int left, Consumer<Bench> call) {
         Bench other = copy().line(line);
         throwsIndex(what, () -> call.accept(other));
@@ -390,7 +390,10 @@ final class Bench {
         return all;
     }
 
-    /** All that can be found out but messages and the line; what only a call that changes it tells, a copy tells. */
+    /**
+     * Tabs, frames, requests, time, what is shown, counts, and the cookies and storage of the places where frames are.
+     * Messages and the line are not in it. What only a call that changes something tells, a copy tells.
+     */
     String state() {
         int[] many = {4, 16, 16, 16, 16, 24, 24, 1, 1, 0, 1};
         StringBuilder all = new StringBuilder("time ").append(time()).append(" shown ").append(shown());
